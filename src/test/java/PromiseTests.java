@@ -310,7 +310,9 @@ public final class PromiseTests {
     for (int i = 0; i < 30; i++) {
       y.mutate();
     }
-    check.due("energy ends at 0", true, () -> y.meanEnergy() >= 0);
+    check.due("energy ends at 0", 0.0, () -> y.meanEnergy());
+    check.due("the second one till it has no energy", 7, () -> y.ofKnown(2, 3));
+    check.due("then the smallest number", 25, () -> y.ofKnown(1, 3));
   }
 
   private static void taste() {
@@ -482,6 +484,8 @@ public final class PromiseTests {
     y.bad(1, false);
     y.lead(1, 1, 1);
     check.due("shrink a run for ever", 5000, () -> y.shrink(9876));
+    y.bad(0, true);
+    check.due("shrink at the bad 0", 0, () -> y.shrink(9876));
     check.due("shrink makes nothing known", 0, () -> y.many(0));
   }
 
@@ -628,6 +632,15 @@ public final class PromiseTests {
     check.due("smallest of -1", ARGUMENT, () -> x.smallest(0, -1));
     x.bad(1, true);
     check.due("smallest of a failure", 70, () -> x.smallest(0, 0));
+    x.bad(1, false);
+    x.ask(0, 2, 1, 9);
+    x.ask(1, 3, 1, 9);
+    check.due("smallest is the last", 1299, () -> x.smallest(2, 1200));
+    x.ask(0, 1, 1, 3);
+    check.due("smallest has the same slot 1", -1, () -> x.smallest(0, 1200));
+    check.due("smallest has the same slot 1, too", -1, () -> x.smallest(0, 1499));
+    x.ask(0, 0, 1, 3);
+    check.due("smallest has the same slot 0", -1, () -> x.smallest(0, 2999));
   }
 
   private static void ahead() {
@@ -683,5 +696,30 @@ public final class PromiseTests {
     }
     check.due("digest", d, () -> x.digest());
     check.due("digest changes nothing", d, () -> x.digest());
+    digestLooksFiveAhead();
+  }
+
+  /** From a DRAW from which the fourth, the fifth and the sixth case have results of their own. */
+  private static void digestLooksFiveAhead() {
+    TestkitchenBench y = new TestkitchenBench();
+    chain(y, 3, 2);
+    boolean different = false;
+    for (int draw = 0; draw < 80 && !different; draw++) {
+      y.draw(draw);
+      different = y.ahead(4) < y.ahead(5) && y.ahead(5) < y.ahead(6);
+    }
+    check.due("ahead grows", true, () -> y.ahead(4) < y.ahead(5) && y.ahead(5) < y.ahead(6));
+    long d = 5740;
+    for (int what = 0; what < 8; what++) {
+      d = d * 31 + y.many(what);
+    }
+    for (int edge = 0; edge < 24; edge++) {
+      d = ((d * 31) * 31) * 31 - 1;
+    }
+    d = (d * 31 + 0) * 31 + y.ahead(5);
+    for (int test = 0; test < 10; test++) {
+      d = ((d * 31 + y.run(test)) * 31 + y.covers(test)) * 31;
+    }
+    check.due("digest with five ahead", d, () -> y.digest());
   }
 }
