@@ -39,49 +39,6 @@ public final class PromiseTests {
     check.end();
   }
 
-  /** Two nodes in a row, each with four ways: 0 asks SLOT 0 < 5, 1 asks SLOT 1 < 5. */
-  private static TestkitchenBench twoInARow() {
-    TestkitchenBench x = new TestkitchenBench();
-    x.ask(0, 0, 0, 5);
-    x.ask(1, 1, 0, 5);
-    x.lead(0, 1, 1);
-    return x;
-  }
-
-  /** twoInARow with 0 {0,2} OLD, 1 {1,2} and 2 {0,3} KEPT. */
-  private static TestkitchenBench withThreeKnown() {
-    TestkitchenBench x = twoInARow();
-    x.taste(0);
-    x.taste(9000);
-    x.taste(900);
-    return x;
-  }
-
-  /** Thirteen ends: nine by the values 0 to 8 of one SLOT, four behind its 9 by another. */
-  private static void chain(TestkitchenBench x, int slot, int next) {
-    for (int node = 0; node < 12; node++) {
-      x.ask(node, node < 9 ? slot : next, 1, node < 9 ? node : node - 9);
-      x.lead(node, -1, node == 11 ? -1 : node + 1);
-    }
-  }
-
-  private static void tasteChain(TestkitchenBench x, int slot, int next) {
-    int[] place = {1000, 100, 10, 1};
-    for (int end = 0; end < 13 && x.many(0) < 40; end++) {
-      x.taste(end < 9 ? end * place[slot] : 9 * place[slot] + (end - 9) * place[next]);
-    }
-  }
-
-  private static TestkitchenBench withFortyKnown() {
-    TestkitchenBench x = new TestkitchenBench();
-    int[][] ways = {{3, 2}, {1, 0}, {0, 1}, {2, 3}};
-    for (int[] way : ways) {
-      chain(x, way[0], way[1]);
-      tasteChain(x, way[0], way[1]);
-    }
-    return x;
-  }
-
   private static void newObject() {
     TestkitchenBench x = new TestkitchenBench();
     int[] many = {0, 0, 0, 0, 0, 0, 1, 1};
@@ -146,14 +103,14 @@ public final class PromiseTests {
     check.due("a wrong lead changes nothing", 7, () -> x.run(0));
     check.due("lead to the ends", 0, () -> x.lead(0, -1, -1));
     check.due("lead yes to the end", 0, () -> x.run(0));
-    TestkitchenBench y = withThreeKnown();
+    TestkitchenBench y = Benches.withThreeKnown();
     check.due("lead wakes none and drops none", 2, () -> y.lead(1, -1, 2));
     check.due("lead away from node 1", 2, () -> y.lead(0, -1, -1));
     check.due("lead: 0 and 2 cover {0}, 1 {1}", 0, () -> y.ofKnown(0, 1));
   }
 
   private static void bad() {
-    TestkitchenBench x = twoInARow();
+    TestkitchenBench x = Benches.twoInARow();
     check.due("bad", 0, () -> x.bad(1, true));
     check.due("bad run", 101, () -> x.run(0));
     check.due("bad covers", 1, () -> x.covers(0));
@@ -162,7 +119,7 @@ public final class PromiseTests {
     check.due("not bad run", 2, () -> x.run(0));
     check.due("bad -1", INDEX, () -> x.bad(-1, true));
     check.due("bad 12", INDEX, () -> x.bad(12, false));
-    TestkitchenBench y = withThreeKnown();
+    TestkitchenBench y = Benches.withThreeKnown();
     check.due("bad 0: all have the one failure, the last stays", 1, () -> y.bad(0, true));
     check.due("bad 0: kept", 1, () -> y.ofKnown(2, 1));
     check.due("bad 0 no more", 2, () -> y.bad(0, false));
@@ -189,7 +146,7 @@ public final class PromiseTests {
   }
 
   private static void run() {
-    TestkitchenBench x = twoInARow();
+    TestkitchenBench x = Benches.twoInARow();
     check.due("run 0", 2, () -> x.run(0));
     check.due("run 9999", 3, () -> x.run(9999));
     check.due("run -1", ARGUMENT, () -> x.run(-1));
@@ -211,7 +168,7 @@ public final class PromiseTests {
   }
 
   private static void edge() {
-    TestkitchenBench x = twoInARow();
+    TestkitchenBench x = Benches.twoInARow();
     check.due("edge 0", 1, () -> x.edge(9000, 0));
     check.due("edge 1", 2, () -> x.edge(9000, 1));
     check.due("edge 2", INDEX, () -> x.edge(9000, 2));
@@ -227,7 +184,7 @@ public final class PromiseTests {
   }
 
   private static void covers() {
-    TestkitchenBench x = twoInARow();
+    TestkitchenBench x = Benches.twoInARow();
     check.due("covers", 2, () -> x.covers(9000));
     x.lead(1, 0, 2);
     check.due("covers each once", 2, () -> x.covers(0));
@@ -294,7 +251,7 @@ public final class PromiseTests {
     TestkitchenBench x = new TestkitchenBench();
     check.due("mutate none", STATE, () -> x.mutate());
     check.due("a refused mutate draws nothing", 1, () -> x.many(6));
-    TestkitchenBench y = withThreeKnown();
+    TestkitchenBench y = Benches.withThreeKnown();
     check.due("mutate 9000 at slot 0 by 1", 0, () -> y.mutate());
     check.due("mutate drew twice", 9027, () -> y.many(6));
     check.due("mutated once", 1, () -> y.ofKnown(1, 3));
@@ -316,7 +273,7 @@ public final class PromiseTests {
   }
 
   private static void taste() {
-    TestkitchenBench x = twoInARow();
+    TestkitchenBench x = Benches.twoInARow();
     check.due("taste 0", 0, () -> x.taste(0));
     check.due("taste 0 again", 0, () -> x.taste(0));
     check.due("taste the like", -1, () -> x.taste(4400));
@@ -347,7 +304,7 @@ public final class PromiseTests {
   }
 
   private static void fullArchive() {
-    TestkitchenBench x = withFortyKnown();
+    TestkitchenBench x = Benches.withFortyKnown();
     int draw = x.many(6);
     check.due("forty known", 40, () -> x.many(0));
     check.due("full taste of no case", ARGUMENT, () -> x.taste(-1));
@@ -363,7 +320,7 @@ public final class PromiseTests {
     check.due("full ask", true, () -> x.ask(11, 1, 0, 5) > 0);
     int before = x.lead(8, 11, 9);
     check.due("kept are counted alike", before, () -> x.many(1));
-    TestkitchenBench y = withFortyKnown();
+    TestkitchenBench y = Benches.withFortyKnown();
     for (int node = 0; node < 2; node++) {
       y.lead(node, -1, -1);
     }
@@ -377,7 +334,7 @@ public final class PromiseTests {
   }
 
   private static void ofKnown() {
-    TestkitchenBench x = withThreeKnown();
+    TestkitchenBench x = Benches.withThreeKnown();
     int[][] due = {{0, 0, 0, 0, 2, 2, 0}, {9000, 1, 7, 0, 2, 2, 2}, {900, 1, 7, 0, 3, 2, 2}};
     for (int known = 0; known < 3; known++) {
       for (int what = 0; what < 7; what++) {
@@ -401,7 +358,7 @@ public final class PromiseTests {
   }
 
   private static void ofEdge() {
-    TestkitchenBench x = withThreeKnown();
+    TestkitchenBench x = Benches.withThreeKnown();
     int[][] due = {{1, 2, 0}, {1, 1, 1}, {1, 2, 0}, {1, 1, 2}, {0, 0, -1}};
     for (int edge = 0; edge < 5; edge++) {
       for (int what = 0; what < 3; what++) {
@@ -418,7 +375,7 @@ public final class PromiseTests {
   }
 
   private static void many() {
-    TestkitchenBench x = withThreeKnown();
+    TestkitchenBench x = Benches.withThreeKnown();
     x.relation(1, 0, 0);
     x.draw(4321);
     int[] due = {3, 2, 4, 4, 0, 1, 4321, 2};
@@ -446,7 +403,7 @@ public final class PromiseTests {
   private static void meanEnergy() {
     TestkitchenBench x = new TestkitchenBench();
     check.due("mean of none", 0.0, () -> x.meanEnergy());
-    TestkitchenBench y = withThreeKnown();
+    TestkitchenBench y = Benches.withThreeKnown();
     check.due("mean of 7 and 7", 7.0, () -> y.meanEnergy());
     y.mutate();
     check.due("mean of 6 and 7", 6.5, () -> y.meanEnergy());
@@ -538,7 +495,7 @@ public final class PromiseTests {
   }
 
   private static void brokenBy() {
-    TestkitchenBench x = withThreeKnown();
+    TestkitchenBench x = Benches.withThreeKnown();
     x.relation(0, 0, 1);
     x.relation(1, 1, 0);
     x.relation(0, 1, 2);
@@ -553,7 +510,7 @@ public final class PromiseTests {
   }
 
   private static void wouldDrop() {
-    TestkitchenBench x = twoInARow();
+    TestkitchenBench x = Benches.twoInARow();
     check.due("would drop none of none", 0, () -> x.wouldDrop(0));
     x.taste(0);
     x.taste(9000);
@@ -571,7 +528,7 @@ public final class PromiseTests {
   }
 
   private static void otherwise() {
-    TestkitchenBench x = withThreeKnown();
+    TestkitchenBench x = Benches.withThreeKnown();
     check.due("otherwise the same", 0, () -> x.otherwise(1, 0, 5));
     check.due("otherwise 1 never smaller", 2, () -> x.otherwise(1, 0, 0));
     check.due("otherwise 1 greater", 3, () -> x.otherwise(1, 2, 4));
@@ -594,15 +551,15 @@ public final class PromiseTests {
     check.due("fewest of one", 1, () -> x.fewest());
     x.bad(0, true);
     check.due("fewest of no edges", 0, () -> x.fewest());
-    TestkitchenBench y = withThreeKnown();
+    TestkitchenBench y = Benches.withThreeKnown();
     check.due("fewest of three", 2, () -> y.fewest());
     TestkitchenBench z = new TestkitchenBench();
-    chain(z, 3, 2);
-    tasteChain(z, 3, 2);
+    Benches.chain(z, 3, 2);
+    Benches.tasteChain(z, 3, 2, 40);
     check.due("thirteen known", 13, () -> z.many(0));
     check.due("fewest of thirteen", -1, () -> z.fewest());
     TestkitchenBench w = new TestkitchenBench();
-    chain(w, 3, 2);
+    Benches.chain(w, 3, 2);
     for (int test = 0; test < 9; test++) {
       w.taste(test);
     }
@@ -651,7 +608,7 @@ public final class PromiseTests {
     check.due("ahead 0", ARGUMENT, () -> x.ahead(0));
     check.due("ahead 51", ARGUMENT, () -> x.ahead(51));
     check.due("ahead -1", ARGUMENT, () -> x.ahead(-1));
-    chain(x, 3, 2);
+    Benches.chain(x, 3, 2);
     x.bad(4, true);
     boolean[] seen = new boolean[200];
     TestkitchenBench y = new TestkitchenBench();
@@ -668,7 +625,7 @@ public final class PromiseTests {
 
   private static void digest() {
     check.due("digest, new", 1527246830044034637L, () -> new TestkitchenBench().digest());
-    TestkitchenBench x = withThreeKnown();
+    TestkitchenBench x = Benches.withThreeKnown();
     x.relation(0, 0, 1);
     x.relation(1, 2, 0);
     long d = 5740;
@@ -702,7 +659,7 @@ public final class PromiseTests {
   /** From a DRAW from which the fourth, the fifth and the sixth case have results of their own. */
   private static void digestLooksFiveAhead() {
     TestkitchenBench y = new TestkitchenBench();
-    chain(y, 3, 2);
+    Benches.chain(y, 3, 2);
     boolean different = false;
     for (int draw = 0; draw < 80 && !different; draw++) {
       y.draw(draw);
