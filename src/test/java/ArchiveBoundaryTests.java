@@ -15,6 +15,7 @@ public final class ArchiveBoundaryTests {
     ofKnownFirstAndLast();
     ofKnownOfAProgramThatChanged();
     energyDownToNothing();
+    mutatedWhileOld();
     energyOfEdgesAndFailures();
     ofEdgeFirstAndLast();
     ofEdgeOfForty();
@@ -180,10 +181,29 @@ public final class ArchiveBoundaryTests {
     check.due("Promise 13: 1 + 9 - 7 is 3", 3, () -> x.ofKnown(0, 2));
   }
 
+  private static void mutatedWhileOld() {
+    TestkitchenBench x = Benches.withThreeKnown();
+    x.mutate();
+    check.due("Promise 13: 1 was MUTATED", "0 1 0", () -> Benches.mutated(x));
+    check.due("Promise 13: so it has less ENERGY", 6, () -> x.ofKnown(1, 2));
+    x.bad(0, true);
+    check.due("Promise 13: 1 is OLD", "0 0 1", () -> Benches.kept(x));
+    check.due("Promise 13: an OLD one was MUTATED, too", "0 1 0", () -> Benches.mutated(x));
+    check.due("Promise 13: an OLD one has no ENERGY", 0, () -> x.ofKnown(1, 2));
+    x.bad(0, false);
+    x.ask(1, 1, 0, 0);
+    x.ask(0, 0, 0, 5);
+    // 0 {0,3}, 9000 {1,3} and 900 {0,3}: 9000 has 1 alone.
+    check.due("Promise 13: 1 is KEPT again", 1, () -> x.ofKnown(1, 1));
+    check.due("Promise 13: it has less ENERGY again", 3, () -> x.ofKnown(1, 2));
+  }
+
   private static void energyOfEdgesAndFailures() {
     TestkitchenBench x = Benches.ring();
     x.taste(0);
     check.due("Promise 13: twelve EDGES and a FAILURE", 1 + 3 * 12 + 5, () -> x.ofKnown(0, 2));
+    check.due("Promise 13: twelve EDGES, though 30 times", 12, () -> x.ofKnown(0, 5));
+    check.due("Promise 13: twelve EDGES alone", 12, () -> x.ofKnown(0, 6));
     x.bad(0, true);
     check.due("Promise 13: a FAILURE, and no EDGE", 6, () -> x.ofKnown(0, 2));
     TestkitchenBench y = Benches.fourLayers();
@@ -294,13 +314,7 @@ public final class ArchiveBoundaryTests {
   }
 
   private static void manyEdgesAndFailures() {
-    TestkitchenBench x = new TestkitchenBench();
-    // An even NODE asks SLOT 3 for one value, and leads to the BAD NODE behind it, or on.
-    for (int node = 0; node < 12; node += 2) {
-      x.ask(node, 3, 1, node / 2);
-      x.lead(node, node + 1, node == 10 ? 10 : node + 2);
-      x.bad(node + 1, true);
-    }
+    TestkitchenBench x = Benches.sevenFailures();
     check.due("Promise 15: no FAILURE, as none is KNOWN", 0, () -> x.many(4));
     for (int value = 0; value < 10; value++) {
       x.taste(value);

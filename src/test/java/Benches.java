@@ -68,6 +68,17 @@ final class Benches {
     return x;
   }
 
+  /** An even NODE asks SLOT 3 for one VALUE, and leads to the BAD NODE behind it, or on. */
+  static TestkitchenBench sevenFailures() {
+    TestkitchenBench x = new TestkitchenBench();
+    for (int node = 0; node < 12; node += 2) {
+      x.ask(node, 3, 1, node / 2);
+      x.lead(node, node + 1, node == 10 ? 10 : node + 2);
+      x.bad(node + 1, true);
+    }
+    return x;
+  }
+
   /** All that is generated is 0, but for one SLOT, with the WEIGHTS of a new object. */
   static TestkitchenBench onlyWeightsOf(int slot) {
     TestkitchenBench x = new TestkitchenBench();

@@ -4,12 +4,28 @@ final class Check {
     Object answer();
   }
 
+  private static final long LONGEST = 240_000;
+
   private final String suite;
   private int checks = 0;
   private int wrong = 0;
 
   Check(String suite) {
     this.suite = suite;
+    Thread watch = new Thread(this::endAtLast);
+    watch.setDaemon(true);
+    watch.start();
+  }
+
+  /** A call that does not end is wrong, too. */
+  private void endAtLast() {
+    try {
+      Thread.sleep(LONGEST);
+    } catch (InterruptedException e) {
+      return;
+    }
+    System.out.println(suite + ": a call does not end");
+    Runtime.getRuntime().halt(1);
   }
 
   /** An answer as text; of a call that throws, the exact class of the exception. */

@@ -21,6 +21,7 @@ public final class ProgramBoundaryTests {
     badAllowed();
     badReturnsKept();
     wakeByNumbers();
+    wakeBeforeAnyIsOld();
     changesWithForty();
     runAtOnce();
     runInARow();
@@ -275,6 +276,31 @@ public final class ProgramBoundaryTests {
     check.due("Promise 2: 1 wakes, 3 stays", "0 1 0 1", () -> Benches.kept(x));
   }
 
+  /** First all that are NEEDED wake; only then are those OLD that are not NEEDED any more. */
+  private static void wakeBeforeAnyIsOld() {
+    TestkitchenBench x = new TestkitchenBench();
+    for (int node = 1; node < 4; node++) {
+      x.ask(node, node - 1, 0, 5);
+      x.lead(node, node == 3 ? -1 : node + 1, node == 3 ? -1 : node + 1);
+    }
+    for (int node = 4; node < 7; node++) {
+      x.ask(node, 3, 1, node - 4);
+      x.lead(node, -1, node == 6 ? -1 : node + 1);
+    }
+    x.lead(0, -1, 4);
+    x.taste(90);
+    x.taste(991);
+    x.taste(9003);
+    x.taste(9992);
+    check.due("Promise 12: by SLOT 3 all four are KEPT", "1 1 1 1", () -> Benches.kept(x));
+    check.due("Promise 2: 2 is as 3", 3, () -> x.ask(6, 3, 0, 0));
+    check.due("Promise 2: 2 is OLD", "1 1 0 1", () -> Benches.kept(x));
+    // 0 {2,4,7}, 1 {2,5,7}, 2 {3,4,6}, 3 {3,5,7} then, all with 1.
+    check.due("Promise 3: one wakes, and two are OLD", 2, () -> x.lead(0, -1, 1));
+    check.due("Promise 3: 2 wakes by 6; 0 is OLD, 1 NEEDED, 3 OLD", "0 1 1 0", () ->
+        Benches.kept(x));
+  }
+
   private static void changesWithForty() {
     TestkitchenBench x = Benches.withKnown(40);
     check.due("Promise 3: with 40 KNOWN", 10, () -> x.lead(11, -1, -1));
@@ -311,6 +337,7 @@ public final class ProgramBoundaryTests {
     check.due("Promise 7: 12 EDGES", 12, () -> x.covers(0));
     check.due("Promise 6: the last of 12", 23, () -> x.edge(0, 11));
     check.due("Promise 6: there is none behind 12", INDEX, () -> x.edge(0, 12));
+    check.due("Promise 6: nor behind 29", INDEX, () -> x.edge(0, 29));
     x.bad(11, true);
     check.due("Promise 5: BAD behind 11 EDGES", 111, () -> x.run(0));
     check.due("Promise 6: the last of 11", 21, () -> x.edge(0, 10));
@@ -369,7 +396,10 @@ public final class ProgramBoundaryTests {
     TestkitchenBench x = Benches.layers();
     check.due("Promise 6: behind 0", 0, () -> x.edge(4999, 0));
     check.due("Promise 6: behind 3", 7, () -> x.edge(4999, 3));
-    check.due("Promise 6: none behind 4", INDEX, () -> x.edge(4999, 4));
+    for (int k = 4; k < 33; k++) {
+      int behind = k;
+      check.due("Promise 6: none behind " + k, INDEX, () -> x.edge(4999, behind));
+    }
     check.due("Promise 6: the smallest CASE", 6, () -> x.edge(0, 3));
     check.due("Promise 6: the largest CASE", 7, () -> x.edge(9999, 3));
     x.bad(3, true);

@@ -14,6 +14,7 @@ public final class QuestionBoundaryTests {
     shrinkFirstAndLast();
     shrinkEachSlot();
     shrinkAgainAndAgain();
+    shrinkOneOfTwo();
     shrinkOverAGap();
     relationFirstAndLast();
     relationOfEachPair();
@@ -49,6 +50,8 @@ public final class QuestionBoundaryTests {
     x.bad(0, true);
     check.due("Promise 17: the smallest CASE stays", 0, () -> x.shrink(0));
     check.due("Promise 17: the largest CASE, with the FAILURE 0", 0, () -> x.shrink(9999));
+    check.due("Promise 17: no CASE, though it would fail, too", ARGUMENT, () -> x.shrink(10000));
+    check.due("Promise 17: nor below 0", ARGUMENT, () -> x.shrink(-1));
     TestkitchenBench y = Benches.ring();
     check.due("Promise 17: the largest CASE, with the FAILURE 12", 0, () -> y.shrink(9999));
     TestkitchenBench z = Benches.row();
@@ -100,6 +103,22 @@ public final class QuestionBoundaryTests {
     y.bad(2, true);
     // With SLOT 1 first it would be 9500, and then 0500.
     check.due("Promise 17: from SLOT 0 on", 0, () -> y.shrink(9999));
+  }
+
+  /** One of two SLOTS must stay 9: that is the one behind, as the one before is smaller first. */
+  private static void shrinkOneOfTwo() {
+    for (int first = 0; first < 4; first++) {
+      for (int second = first + 1; second < 4; second++) {
+        TestkitchenBench x = new TestkitchenBench();
+        x.ask(0, first, 1, 9);
+        x.lead(0, 2, 1);
+        x.ask(1, second, 1, 9);
+        x.lead(1, 2, -1);
+        x.bad(2, true);
+        String told = "Promise 17: SLOT " + first + " ahead of " + second;
+        check.due(told, Benches.only(second, 9, 0), () -> x.shrink(9999));
+      }
+    }
   }
 
   private static void shrinkOverAGap() {
@@ -474,6 +493,11 @@ public final class QuestionBoundaryTests {
       x.ask(0, 3, 1, value);
       check.due("Promise 24: SLOT 3 is " + value, 5600 + v, () -> x.smallest(0, 5678));
     }
+    x.ask(0, 1, 1, 3);
+    check.due("Promise 24: the first of the next hundred is not looked at", -1, () ->
+        x.smallest(0, 1200));
+    check.due("Promise 24: nor the last of those before", -1, () -> x.smallest(0, 1400));
+    check.due("Promise 24: the first of its own hundred", 1300, () -> x.smallest(0, 1399));
     x.ask(0, 2, 1, 9);
     x.lead(0, 1, -1);
     x.ask(1, 3, 1, 9);
@@ -519,11 +543,13 @@ public final class QuestionBoundaryTests {
     check.due("Promise 25: without WEIGHTS 50 times 0", 1, () -> x.ahead(50));
     x.bad(0, true);
     check.due("Promise 25: one FAILURE", 1, () -> x.ahead(50));
-    TestkitchenBench y = new TestkitchenBench();
-    Benches.chain(y, 3, 2);
-    for (int node = 0; node < 12; node += 3) {
-      y.bad(node == 0 ? 11 : node, true);
-    }
+    TestkitchenBench chain = new TestkitchenBench();
+    Benches.chain(chain, 3, 2);
+    aheadUpToFifty("ends", chain);
+    aheadUpToFifty("failures", Benches.sevenFailures());
+  }
+
+  private static void aheadUpToFifty(String told, TestkitchenBench y) {
     boolean[] seen = new boolean[200];
     TestkitchenBench twin = new TestkitchenBench();
     int different = 0;
@@ -532,8 +558,10 @@ public final class QuestionBoundaryTests {
       different += seen[result] ? 0 : 1;
       seen[result] = true;
       int kk = k;
-      check.due("Promise 25: " + k + " ahead", different, () -> y.ahead(kk));
+      check.due("Promise 25: " + k + " ahead of " + told, different, () -> y.ahead(kk));
     }
+    int all = different;
+    check.due("Promise 25: several " + told, true, () -> all > 4);
   }
 
   /** From that DRAW 49 CASES are alike for the PROGRAM, and the 50th is not. */
@@ -590,7 +618,7 @@ public final class QuestionBoundaryTests {
   private static void digestWrapsAround() {
     TestkitchenBench[] all = {
       new TestkitchenBench(), Benches.withThreeKnown(), Benches.withKnown(12), Benches.withKnown(13),
-      Benches.rich()
+      Benches.rich(), fiveAhead()
     };
     for (TestkitchenBench x : all) {
       String told = "Promise 26: with " + x.many(0) + " KNOWN ";
@@ -606,6 +634,20 @@ public final class QuestionBoundaryTests {
     int some = negative;
     check.due("Promise 26: some answers are negative, some are not", true, () ->
         some > 0 && some < 12);
+  }
+
+  /** From its DRAW the fourth, the fifth and the sixth CASE have RESULTS of their own. */
+  private static TestkitchenBench fiveAhead() {
+    TestkitchenBench x = new TestkitchenBench();
+    Benches.chain(x, 3, 2);
+    boolean grows = false;
+    for (int draw = 0; draw < 80 && !grows; draw++) {
+      x.draw(draw);
+      grows = x.ahead(4) < x.ahead(5) && x.ahead(5) < x.ahead(6);
+    }
+    boolean found = grows;
+    check.due("there is a DRAW from which the RESULTS grow", true, () -> found);
+    return x;
   }
 
   private static BigInteger with(BigInteger d, int v) {
