@@ -438,6 +438,9 @@ public final class QuestionBoundaryTests {
     y.taste(9000);
     // 0 {0,2,5,7}, 1 {0,3,4,7}, 2 {1,3,5,7}, 3 {1,2,4,6}.
     check.due("Promise 23: three of four", 3, () -> y.fewest());
+    // 999 {0,3,5,7} and 3 would COVER all, if 999 was KNOWN.
+    check.due("Promise 21: nothing would come of 999", -1, () -> y.wouldDrop(999));
+    check.due("Promise 23: what was looked at is not KNOWN", 3, () -> y.fewest());
     y.ask(0, 0, 0, 0);
     check.due("Promise 23: two of four", 2, () -> y.fewest());
     TestkitchenBench z = Benches.layers();
@@ -449,8 +452,7 @@ public final class QuestionBoundaryTests {
     TestkitchenBench w = Benches.layers();
     w.taste(99);
     w.taste(9900);
-    w.taste(999);
-    check.due("Promise 23: the last one is not NEEDED", -1, () -> w.taste(999));
+    check.due("Promise 12: nothing comes of 999", -1, () -> w.taste(999));
     check.due("Promise 23: two that are KNOWN", 2, () -> w.fewest());
     // FAILURES are not asked for: 0 is endless, and the others COVER its EDGES.
     TestkitchenBench v = new TestkitchenBench();
