@@ -360,7 +360,8 @@ public final class TestkitchenBench {
 
   private int tasteOf(int test) {
     program.follow(test, trace);
-    return archive.admit(test, trace);
+    archive.take(archive.keptIfTasted(test, trace));
+    return archive.numberOf(test);
   }
 
   private int keptAfterChange() {
@@ -512,7 +513,7 @@ public final class TestkitchenBench {
   }
 
   private static boolean contains(long set, int number) {
-    return (set & bit(number)) != 0;
+    return (set >>> number & 1) != 0;
   }
 
   private static int edgesIn(long finds) {
@@ -721,6 +722,7 @@ public final class TestkitchenBench {
       return found;
     }
 
+    /** What no other one of the set finds: the case is NEEDED if there is anything of this. */
     long foundAloneBy(int place, long set) {
       return finds[place] & ~foundBy(set & ~bit(place));
     }
@@ -774,38 +776,33 @@ public final class TestkitchenBench {
       }
       tests[count] = test;
       note(count, trace);
-      if (!isNeeded(count, kept)) {
+      if (foundAloneBy(count, kept) == 0) {
         return kept;
       }
       return neededOf(kept | bit(count));
     }
 
-    int admit(int test, Trace trace) {
-      long then = keptIfTasted(test, trace);
+    /** Makes known what keptIfTasted looked at, if it answered that others are kept then. */
+    void take(long then) {
       if (then != kept && count < MOST_KNOWN) {
         kept = then;
         count++;
       }
-      return numberOf(test);
     }
 
     void settle() {
       for (int known = 0; known < count && known < MOST_KNOWN; known++) {
-        if (!isKept(known) && isNeeded(known, kept)) {
+        if (!isKept(known) && foundAloneBy(known, kept) != 0) {
           kept |= bit(known);
         }
       }
       kept = neededOf(kept);
     }
 
-    private boolean isNeeded(int place, long set) {
-      return foundAloneBy(place, set) != 0;
-    }
-
     private long neededOf(long set) {
       long left = set;
       for (int place = 0; place < PLACES; place++) {
-        if (contains(left, place) && !isNeeded(place, left)) {
+        if (contains(left, place) && foundAloneBy(place, left) == 0) {
           left &= ~bit(place);
         }
       }
